@@ -1,0 +1,71 @@
+import java.lang.reflect.Constructor;
+import java.lang.reflect.Field;
+import java.lang.reflect.Method;
+import java.lang.reflect.Modifier;
+import java.util.Set;
+import java.util.TreeSet;
+
+/** The public face: just the document's members, and nothing else that is not private. */
+public final class FaceTest {
+    private static final Check check = new Check();
+    private static final Set<String> FACE = Set.of(
+        "int write(int)", "int wipe()", "int fault()", "int post()", "int letter(int, int)", "int send(int)", "int day()",
+        "int tear(int)", "int card(int)", "int undo()", "int price(int, int)", "int cheapest(int)",
+        "int plan(int, boolean)", "int order()", "int judge(int, int)", "int cost(int, int)", "int waits(int, int)",
+        "int who(int, int, int)", "int share(int, boolean)", "int rests(int, int, int)",
+        "int lost(int, int, int, boolean)", "long seed(long)", "int years(int)", "int keep(int)", "int again(int)",
+        "int count(int)");
+
+    public static void main(String[] args) {
+        check.promise("the face");
+        check.due("UNKNOWN", WaitedPost.UNKNOWN, -1);
+        check.due("OUTSIDE", WaitedPost.OUTSIDE, -2);
+        check.due("STATE", WaitedPost.STATE, -3);
+        check.due("FULL", WaitedPost.FULL, -4);
+        check.due("NONE", WaitedPost.NONE, -9);
+        check.due("public and final", WaitedPost.class.getModifiers(), Modifier.PUBLIC | Modifier.FINAL);
+        methods();
+        fields();
+        Constructor<?>[] constructors = WaitedPost.class.getDeclaredConstructors();
+        check.due("constructors", constructors.length, 1);
+        check.due("public constructor", Modifier.isPublic(constructors[0].getModifiers()));
+        check.due("without parameters", constructors[0].getParameterCount(), 0);
+        check.end();
+    }
+
+    private static void methods() {
+        Set<String> open = new TreeSet<>();
+        Set<String> names = new TreeSet<>();
+        for (Method method : WaitedPost.class.getDeclaredMethods()) {
+            if (!Modifier.isPrivate(method.getModifiers())) {
+                StringBuilder face = new StringBuilder(method.getReturnType() + " " + method.getName() + "(");
+                for (Class<?> type : method.getParameterTypes()) {
+                    face.append(face.charAt(face.length() - 1) == '(' ? "" : ", ").append(type);
+                }
+                open.add(face.append(")").toString());
+                names.add(method.getName());
+                check.due(face + " is public", Modifier.isPublic(method.getModifiers()));
+                check.due(face + " is no static one", !Modifier.isStatic(method.getModifiers()));
+            }
+        }
+        check.due("the methods " + open, open.equals(FACE));
+        for (Method method : WaitedPost.class.getDeclaredMethods()) {
+            if (Modifier.isPrivate(method.getModifiers())) {
+                check.due("the private name " + method.getName() + " is its own", !names.contains(method.getName()));
+            }
+        }
+    }
+
+    private static void fields() {
+        Set<String> constants = new TreeSet<>();
+        for (Field field : WaitedPost.class.getDeclaredFields()) {
+            if (!Modifier.isPrivate(field.getModifiers())) {
+                constants.add(field.getName());
+            }
+            if (Modifier.isStatic(field.getModifiers())) {
+                check.due(field.getName() + " is final", Modifier.isFinal(field.getModifiers()));
+            }
+        }
+        check.due("the constants", constants.equals(Set.of("UNKNOWN", "OUTSIDE", "STATE", "FULL", "NONE")));
+    }
+}
