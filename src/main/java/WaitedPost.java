@@ -768,8 +768,9 @@ public final class WaitedPost {
         private static final int AT_EXPLAINED = 7;
 
         final Told draft;
-        int step;
-        int ahead;
+        private int step;
+        // the first figure of the part in hand
+        private int ahead;
 
         Reader() {
             draft = new Told();

@@ -70,6 +70,7 @@ public final class HowLongTest {
         check.due("0 by seven, in all", small.who(0, 0, 1), 0);
         WaitedPost two = Check.posted("P92L22L10L10E10E20");
         check.due("0 by both", two.who(0, 0, 1), 6);
+        check.due("not by the first letter", Check.posted("P92L10L52E01").who(1, 15, 2), 1);
         two.tear(0);
         two.day();
         check.due("torn: 6", two.who(0, 6, 2), 6);

@@ -111,6 +111,8 @@ public final class PostTest {
         fault("P01L00L00E02", 11);
         fault("P01L00L00E0X", 11);
         fault("P01L00L00E01", WaitedPost.NONE);
+        fault("P01L00L00E10E", 13);
+        fault("P01L00L00E10E1", 13);
         fault("P01L00L00E01E0", 13);
         fault("P01L00L00E01E1", 14);
         fault("P01L00L00E01E11", 14);
@@ -164,6 +166,9 @@ public final class PostTest {
         check.due("undo()", post.undo(), WaitedPost.STATE);
         check.due("all anew", Check.view(post).equals(Check.view(Check.posted("P32L51L32L43E01E12"))));
         check.due("the seed stays", post.seed(0), 77);
+        post.send(0);
+        post.post();
+        check.due("none sent this day", post.count(6), 0);
         Check.tell(post, "P91");
         check.due("post() without letters", post.post(), 0);
         check.due("letter(0, 0)", post.letter(0, 0), WaitedPost.UNKNOWN);

@@ -66,6 +66,7 @@ public final class PricesTest {
         check.due("18 and 18", far.cheapest(1), 0);
         far.day();
         check.due("20 now, 18 in eight days", far.cheapest(1), 8);
+        check.due("the pardon is tomorrow", Check.posted("P11L51").cheapest(0), 1);
         WaitedPost nine = Check.posted("P91L91");
         nine.card(0);
         check.due("in nine days 15", nine.cheapest(0), 9);

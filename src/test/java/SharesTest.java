@@ -86,6 +86,8 @@ public final class SharesTest {
         // love waits at 2 a day: both today pays 2 more, as much as tomorrow: 00, 01, 10
         WaitedPost love = Check.posted("P91L51L51");
         rests(love, 0, 1, 3, 0);
+        // the pardon on the fifth day is none of the four
+        rests(Check.posted("P41L91L91"), 0, 1, 3, 0);
         // thanks wait at 1 a day: both today is 2 more, tomorrow 1 more
         WaitedPost thanks = Check.posted("P91L50L50");
         rests(thanks, 0, 1, 2, 1);
