@@ -86,6 +86,8 @@ public final class SharesTest {
         // love waits at 2 a day: both today pays 2 more, as much as tomorrow: 00, 01, 10
         WaitedPost love = Check.posted("P91L51L51");
         rests(love, 0, 1, 3, 0);
+        // each would go a day behind the other one, or today when that is dear: they never rest
+        rests(Check.posted("P41L20L20E01E10"), 0, 1, 0, WaitedPost.NONE);
         // the pardon on the fifth day is none of the four
         rests(Check.posted("P41L91L91"), 0, 1, 3, 0);
         // thanks wait at 1 a day: both today is 2 more, tomorrow 1 more
