@@ -38,14 +38,16 @@ final class Later {
     private static String undone(Supplier<WaitedPost> made) {
         StringBuilder all = new StringBuilder();
         WaitedPost post = made.get();
+        int letters = post.count(1);
         int many = post.count(9) + 1;
         for (int i = 0; i < many; i++) {
             all.append(post.undo()).append(": ");
             for (int what = 4; what <= 9; what++) {
                 all.append(post.count(what)).append(' ');
             }
-            for (int letter = 0; letter < post.count(1); letter++) {
-                all.append(post.letter(letter, 0)).append(post.letter(letter, 4)).append(post.letter(letter, 5)).append(' ');
+            for (int letter = 0; letter < letters; letter++) {
+                all.append(post.letter(letter, 0)).append(' ').append(post.letter(letter, 4)).append(' ');
+                all.append(post.letter(letter, 5)).append(' ');
             }
         }
         return all.toString();
@@ -61,10 +63,11 @@ final class Later {
 
     private static String asked(WaitedPost post) {
         StringBuilder all = new StringBuilder();
-        int left = (1 << post.count(1)) - 1 & ~post.count(5);
+        int letters = post.count(1);
+        int left = (1 << letters) - 1 & ~post.count(5);
         all.append(post.order()).append(' ').append(post.plan(left, false)).append(' ').append(post.plan(left, true));
         all.append(' ').append(post.judge(6, 102030)).append(' ').append(post.cost(6, 102030)).append(' ');
-        for (int letter = 0; letter < post.count(1); letter++) {
+        for (int letter = 0; letter < letters; letter++) {
             for (int n = 0; n <= 9; n++) {
                 all.append(post.price(letter, n)).append(' ');
             }
@@ -77,8 +80,9 @@ final class Later {
 
     private static String goneOn(WaitedPost post) {
         StringBuilder all = new StringBuilder();
+        int letters = post.count(1);
         for (int day = 0; day < 4; day++) {
-            for (int letter = 0; letter < post.count(1); letter++) {
+            for (int letter = 0; letter < letters; letter++) {
                 all.append(post.send(letter)).append(' ');
             }
             all.append(post.day()).append(' ');
