@@ -5,7 +5,6 @@ public final class ChanceEdgesTest {
     private static final Check check = new Check();
     private static final int NONE = WaitedPost.NONE;
     private static final int OUTSIDE = WaitedPost.OUTSIDE;
-    private static final int STATE = WaitedPost.STATE;
     private static final BigInteger TIMES = new BigInteger("6364136223846793005");
     private static final BigInteger MORE = new BigInteger("1442695040888963407");
     private static final BigInteger WHOLE = BigInteger.ONE.shiftLeft(64);
@@ -34,11 +33,9 @@ public final class ChanceEdgesTest {
         promise21ByAnotherDay();
         promise21First();
         promise21None();
-        promise21Refusals();
         promise22Tenths();
         promise22PriceOrLess();
         promise22SentAndExplains();
-        promise22Refusals();
         promise23Seed();
         promise24Times();
         promise24Wrapping();
@@ -310,8 +307,9 @@ public final class ChanceEdgesTest {
         rests(Check.posted("P31L03L40E01"), 0, 1, 5, 1);
         // (6 - 3) / 2 is as much as 4 - 3
         rests(Check.posted("P31L03L30E01"), 0, 1, 5, 1);
-        // (8 - 3) / 2 is less than 6 - 3: 03, 13, 23, 30; (5 - 3) / 2 is as much as 4 - 3, and 3 - 3 less: 01, 12, 13, 23, 30
+        // (8 - 3) / 2 is less than 6 - 3: 03, 13, 23, 30
         rests(Check.posted("P31L03L50E01"), 0, 1, 4, 3);
+        // (5 - 3) / 2 is as much as 4 - 3, and 3 - 3 is less: 01, 12, 13, 23, 30
         rests(Check.posted("P31L03L20E01"), 0, 1, 5, 1);
     }
 
@@ -362,26 +360,6 @@ public final class ChanceEdgesTest {
         // each explains the other one, and would go a day behind it
         rests(Check.posted("P41L20L20E01E10"), 0, 1, 0, NONE);
         rests(Check.posted("P41L20L20E01"), 0, 1, 1, 1);
-    }
-
-    private static void promise21Refusals() {
-        check.sentence(21, "UNKNOWN: both; OUTSIDE: both are one, what; STATE: one was SENT.");
-        WaitedPost post = Check.posted("P92L53L53L53");
-        check.due("rests(-1, 0, 0)", post.rests(-1, 0, 0), WaitedPost.UNKNOWN);
-        check.due("rests(0, -1, 0)", post.rests(0, -1, 0), WaitedPost.UNKNOWN);
-        check.due("rests(0, 2, 0)", post.rests(0, 2, 0), 12);
-        check.due("rests(2, 0, 0)", post.rests(2, 0, 0), 12);
-        check.due("rests(3, 0, 0)", post.rests(3, 0, 0), WaitedPost.UNKNOWN);
-        check.due("rests(0, 3, 0)", post.rests(0, 3, 0), WaitedPost.UNKNOWN);
-        check.due("rests(1, 1, 0)", post.rests(1, 1, 0), OUTSIDE);
-        check.due("rests(0, 1, -1)", post.rests(0, 1, -1), OUTSIDE);
-        check.due("rests(0, 1, 0)", post.rests(0, 1, 0), 12);
-        check.due("rests(0, 1, 1)", post.rests(0, 1, 1), 1);
-        check.due("rests(0, 1, 2)", post.rests(0, 1, 2), OUTSIDE);
-        post.send(1);
-        check.due("rests(0, 1, 0), the other one SENT", post.rests(0, 1, 0), STATE);
-        check.due("rests(1, 0, 0), the one SENT", post.rests(1, 0, 0), STATE);
-        check.due("rests(0, 2, 0), neither SENT", post.rests(0, 2, 0), 12);
     }
 
     // ---- lost
@@ -460,21 +438,6 @@ public final class ChanceEdgesTest {
         apart.send(2);
         lost(apart, 27, 5, 1, 1);
         lost(apart, 26, 5, 0, 1);
-    }
-
-    private static void promise22Refusals() {
-        check.sentence(22, "UNKNOWN; OUTSIDE: p, x; STATE: it was SENT.");
-        WaitedPost post = Check.posted("P92L30L30");
-        check.due("lost(-1, 0, 0)", post.lost(-1, 0, 0, true), WaitedPost.UNKNOWN);
-        check.due("lost(0, 0, 0)", post.lost(0, 0, 0, true), 0);
-        check.due("lost(1, 0, 0)", post.lost(1, 0, 0, true), 0);
-        check.due("lost(2, 0, 0)", post.lost(2, 0, 0, true), WaitedPost.UNKNOWN);
-        post.send(1);
-        check.due("lost(1, 0, 0), SENT", post.lost(1, 0, 0, true), STATE);
-        for (int[] call : new int[][] {{2, 0, 0}, {0, 61, 0}, {0, 0, 11}, {1, 0, 0}}) {
-            check.due("told likewise above and below", post.lost(call[0], call[1], call[2], true),
-                post.lost(call[0], call[1], call[2], false));
-        }
     }
 
     // ---- the seed, years
@@ -604,18 +567,30 @@ public final class ChanceEdgesTest {
         check.due("not even if nothing is", yearsFrom(post, drawingTwo(2, 7), 2), 0);
     }
 
-    private static void promise24NothingChanges() {
-        check.sentence(24, "(Nothing changes but THE SEED.)");
+    private static WaitedPost begun() {
         WaitedPost post = Check.posted("P92L50L60L70");
         post.send(0);
         post.keep(1);
         post.day();
-        String before = Check.view(post);
+        return post;
+    }
+
+    private static void promise24NothingChanges() {
+        check.sentence(24, "(Nothing changes but THE SEED.)");
+        // a LETTER is SENT, one that was SENT can not be, A DAY, and whatever comes by the longest run
+        for (long seed : new long[] {drawing(1), drawing(0), drawing(6), 0}) {
+            int m = seed == 0 ? 30 : 1;
+            check.changesNothing("years(" + m + ") from " + seed + ", the seed put back", ChanceEdgesTest::begun, post -> {
+                yearsFrom(post, seed, m);
+                post.seed(0);
+                return post.count(7);
+            }, 5);
+        }
+        WaitedPost post = begun();
         check.due("one is sent", yearsFrom(post, drawing(1), 1), 7);
-        check.due("as it was behind one that is sent", Check.view(post).equals(before));
+        check.due("the seed", post.seed(0), 1L << 33);
         check.due("a day", yearsFrom(post, drawing(6), 1), 0);
-        check.due("as it was behind a day", Check.view(post).equals(before));
-        check.due("the seed", post.seed(0), 6L << 33);
+        check.due("the seed then", post.seed(0), 6L << 33);
         check.due("undo()", post.undo(), 1);
         check.due("again(1)", post.again(1), 0);
     }

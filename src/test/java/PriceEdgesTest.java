@@ -30,7 +30,6 @@ public final class PriceEdgesTest {
         promise16Place();
         promise17LeftOut();
         promise17Paid();
-        promise17Outside();
         check.end();
     }
 
@@ -77,7 +76,7 @@ public final class PriceEdgesTest {
     }
 
     private static void promise12Pardon() {
-        check.sentence(12, "PRICE IN n DAYS: on the DAY of PARDON half of that (cut)");
+        check.sentence(12, "on the DAY of PARDON half of that (cut)");
         WaitedPost nine = Check.posted("P91L02");
         check.due("the day before", nine.price(0, 8), 24);
         check.due("in nine days", nine.price(0, 9), 27 / 2);
@@ -211,7 +210,8 @@ public final class PriceEdgesTest {
     }
 
     private static void promise14OfLikeOnes() {
-        check.sentence(14, "of like ones the first (told by LETTERS of the set in order, the DAY each; the least as a number)");
+        check.sentence(14,
+            "of like ones the first (told by LETTERS of the set in order, the DAY each; the least as a number)");
         plan(Check.posted("P91L50L50"), 3, 11, 1);
         plan(Check.posted("P91L53L50L51L53"), 15, 10 + 6, 2103);
         plan(Check.posted("P93L53L53L53L53L53L53"), 63, 0, 111);
@@ -332,7 +332,7 @@ public final class PriceEdgesTest {
     }
 
     private static void promise16Row() {
-        check.sentence(16, "OUTSIDE: n, row (0 or more, n figures at most).");
+        check.sentence(16, "row (0 or more, n figures at most)");
         WaitedPost post = Check.posted("P91L00");
         int ten = 10;
         for (int n = 1; n <= 6; n++) {
@@ -386,19 +386,5 @@ public final class PriceEdgesTest {
         check.due("what was paid ahead is none of it", post.cost(1, 2), 12);
         check.due("room for one more", post.cost(2, 32), 0);
         check.due("paid", post.count(7), 10);
-    }
-
-    private static void promise17Outside() {
-        check.sentence(17, "OUTSIDE: n, row.");
-        WaitedPost post = Check.posted("P91L50");
-        check.due("cost(0, 0)", post.cost(0, 0), OUTSIDE);
-        check.due("cost(1, 0)", post.cost(1, 0), 0);
-        check.due("cost(6, 0)", post.cost(6, 0), 0);
-        check.due("cost(7, 0)", post.cost(7, 0), OUTSIDE);
-        check.due("cost(1, -1)", post.cost(1, -1), OUTSIDE);
-        check.due("cost(1, 9)", post.cost(1, 9), 0);
-        check.due("cost(1, 10)", post.cost(1, 10), OUTSIDE);
-        check.due("cost(6, 999999)", post.cost(6, 999999), 0);
-        check.due("cost(6, 1000000)", post.cost(6, 1000000), OUTSIDE);
     }
 }

@@ -1,3 +1,4 @@
+import java.util.List;
 import java.util.function.Supplier;
 import java.util.function.ToLongFunction;
 
@@ -41,7 +42,6 @@ public final class RefusalsTest {
         numbersOfTheFace();
         fractionsLikewise();
         nothingIsChangedByAsking();
-        nothingButTheSeed();
         check.end();
     }
 
@@ -88,7 +88,7 @@ public final class RefusalsTest {
         return post;
     }
 
-    /** 14 ACTS, so that one more forgets the first one; LETTER 1 is TORN, its clock stands, and there is no room this DAY. */
+    /** 14 ACTS, so that one more forgets the first one; LETTER 1 is TORN, its clock stands, there is no room this DAY. */
     private static WaitedPost longRow() {
         WaitedPost post = busy();
         Check.days(post, 5);
@@ -128,7 +128,8 @@ public final class RefusalsTest {
     private static void promise5State() {
         check.sentence(5, "STATE: a FAULT.");
         check.changesNothing("post() of a text not at its end", RefusalsTest::faulty, WaitedPost::post, STATE);
-        for (String text : new String[] {"", "P", "P04", "P01L04", "P33L10E", "P33L10L20L30L40L50L60L"}) {
+        String[] texts = {"", "P", "P0", "P04", "X01", "P01P", "P01L0", "P01L04", "P33L10E", "P33L10L20L30L40L50L60L"};
+        for (String text : texts) {
             Supplier<WaitedPost> made = () -> {
                 WaitedPost post = busy();
                 Check.tell(post, text);
@@ -137,6 +138,8 @@ public final class RefusalsTest {
             check.changesNothing("post() of " + text, made, WaitedPost::post, STATE);
         }
         check.due("post() without that letter", busy().post(), 5);
+        check.due("post() of P01", Check.told("P01").post(), 0);
+        check.due("post() of P01L00", Check.told("P01L00").post(), 1);
     }
 
     private static void promise6UnknownOutside() {
@@ -298,6 +301,10 @@ public final class RefusalsTest {
         for (int[] told : OUTSIDE_ROWS) {
             refused("cost(" + told[0] + ", " + told[1] + ")", post -> post.cost(told[0], told[1]), OUTSIDE);
         }
+        refused("cost(1, 0)", post -> post.cost(1, 0), 0);
+        refused("cost(1, 9)", post -> post.cost(1, 9), 0);
+        refused("cost(6, 0)", post -> post.cost(6, 0), 0);
+        refused("cost(6, 999999)", post -> post.cost(6, 999999), 0);
         refused("cost(1, 2)", post -> post.cost(1, 2), 6);
         refused("cost(6, 200005)", post -> post.cost(6, 200005), 6 + (12 - 3) / 2);
     }
@@ -356,8 +363,8 @@ public final class RefusalsTest {
                 refused(call, post -> post.rests(pair[0], pair[1], what), UNKNOWN);
             }
         }
-        int[][] outside = {{0, 0, 0}, {3, 3, 1}, {1, 1, 0}, {4, 4, 1}, {1, 2, -1}, {1, 2, 2}, {0, 1, -1}, {1, 0, 2}, {0, 3, 2},
-            {1, 1, 2}, {1, 2, Integer.MIN_VALUE}, {1, 2, Integer.MAX_VALUE}};
+        int[][] outside = {{0, 0, 0}, {3, 3, 1}, {1, 1, 0}, {4, 4, 1}, {1, 2, -1}, {1, 2, 2}, {0, 1, -1}, {1, 0, 2},
+            {0, 3, 2}, {1, 1, 2}, {1, 2, Integer.MIN_VALUE}, {1, 2, Integer.MAX_VALUE}};
         for (int[] told : outside) {
             String call = "rests(" + told[0] + ", " + told[1] + ", " + told[2] + ")";
             refused(call, post -> post.rests(told[0], told[1], told[2]), OUTSIDE);
@@ -434,6 +441,8 @@ public final class RefusalsTest {
             refused("count(" + what + ")", post -> post.count(what), OUTSIDE);
         }
         refused("count(0)", post -> post.count(0), TEXT.length());
+        refused("count(1)", post -> post.count(1), 5);
+        refused("count(8)", post -> post.count(8), 6 + 0 + 5);
         refused("count(9)", post -> post.count(9), 5);
     }
 
@@ -442,7 +451,7 @@ public final class RefusalsTest {
     }
 
     private static void promise11RefusedActs() {
-        check.sentence(11, "What is refused changes nothing. (14 at most; of more the first one is forgotten)");
+        check.sentence(11, "What is refused changes nothing.");
         check.due("count(9)", longRow().count(9), 14);
         refusedAct("send(5)", post -> post.send(5), UNKNOWN);
         refusedAct("send(0)", post -> post.send(0), STATE);
@@ -518,7 +527,8 @@ public final class RefusalsTest {
 
     private static void fractionsLikewise() {
         check.sentence(22, "refusals of them are told likewise");
-        int[][] calls = {{-1, 0, 0, UNKNOWN}, {5, 61, 11, UNKNOWN}, {0, 61, 0, OUTSIDE}, {1, 0, 11, OUTSIDE}, {0, 0, 0, STATE}};
+        int[][] calls = {{-1, 0, 0, UNKNOWN}, {5, 61, 11, UNKNOWN}, {0, 61, 0, OUTSIDE}, {1, 0, 11, OUTSIDE},
+            {0, 0, 0, STATE}};
         for (int[] call : calls) {
             check.fraction("lost of " + call[0], busy().lost(call[0], call[1], call[2], true),
                 busy().lost(call[0], call[1], call[2], false), call[3], call[3]);
@@ -530,8 +540,8 @@ public final class RefusalsTest {
 
     private static void asks(int promise, String call, ToLongFunction<WaitedPost> asked) {
         check.sentence(promise, "In what follows nothing is changed.");
-        for (Supplier<WaitedPost> made : java.util.List.<Supplier<WaitedPost>>of(
-            RefusalsTest::busy, RefusalsTest::full, RefusalsTest::goneOn, RefusalsTest::ring, RefusalsTest::written, WaitedPost::new)) {
+        for (Supplier<WaitedPost> made : List.<Supplier<WaitedPost>>of(RefusalsTest::busy, RefusalsTest::full,
+            RefusalsTest::goneOn, RefusalsTest::longRow, RefusalsTest::ring, RefusalsTest::written, WaitedPost::new)) {
             check.changesNothing(call, made, asked, asked.applyAsLong(made.get()));
         }
     }
@@ -551,26 +561,6 @@ public final class RefusalsTest {
         asks(21, "rests(1, 2, 1)", post -> post.rests(1, 2, 1));
         asks(22, "lost(1, 6, 5, true)", post -> post.lost(1, 6, 5, true));
         asks(27, "count(8)", post -> post.count(8));
-    }
-
-    private static void nothingButTheSeed() {
-        check.sentence(24, "(Nothing changes but THE SEED.)");
-        for (int m : new int[] {1, 2, 29, 30}) {
-            for (long seed : new long[] {0, 7, -1}) {
-                Supplier<WaitedPost> made = () -> {
-                    WaitedPost post = busy();
-                    post.seed(seed);
-                    return post;
-                };
-                ToLongFunction<WaitedPost> asked = post -> {
-                    post.years(m);
-                    post.seed(seed);
-                    return post.count(7);
-                };
-                check.changesNothing("years(" + m + ") from " + seed + ", the seed told anew", made, asked, 10 + 20);
-                check.due("but the seed", !Later.tells(made).equals(Later.tells(Later.behind(made, post -> post.years(m)))));
-            }
-        }
     }
 
     private static void changes(String call, ToLongFunction<WaitedPost> asked) {

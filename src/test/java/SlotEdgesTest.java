@@ -11,7 +11,6 @@ public final class SlotEdgesTest {
         promise26NoneWereKept();
         promise26RowIsEmpty();
         promise26AsTheyWereKept();
-        promise27What();
         promise27Counts();
         promise27PricesOfAll();
         calls512();
@@ -126,17 +125,6 @@ public final class SlotEdgesTest {
         post.keep(1);
         check.due("kept anew", post.again(1), 1);
         check.due("the other slot as it was", post.again(0), 0);
-    }
-
-    private static void promise27What() {
-        check.sentence(27, "OUTSIDE.");
-        WaitedPost post = Check.posted("P91L50");
-        check.due("count(-1)", post.count(-1), WaitedPost.OUTSIDE);
-        check.due("count(0)", post.count(0), 6);
-        check.due("count(1)", post.count(1), 1);
-        check.due("count(8)", post.count(8), 5);
-        check.due("count(9)", post.count(9), 0);
-        check.due("count(10)", post.count(10), WaitedPost.OUTSIDE);
     }
 
     private static void promise27Counts() {

@@ -30,7 +30,6 @@ public final class TextEdgesTest {
         promise5KeptIsGone();
         promise5SeedStays();
         promise5MadeAnew();
-        promise5Fault();
         promise6What();
         promise6Explainers();
         promise6SentAndTorn();
@@ -351,17 +350,6 @@ public final class TextEdgesTest {
         check.due("WAITED as told", post.letter(3, 0), 7);
         check.due("as a new object", Later.tells(() -> Later.behind(() -> Check.posted(text), WaitedPost::post).get())
             .equals(Later.tells(() -> Check.posted(text))));
-    }
-
-    private static void promise5Fault() {
-        check.sentence(5, "STATE: a FAULT.");
-        check.due("none", Check.told("P01").post(), 0);
-        check.due("only not at its end", Check.told("P01L0").post(), WaitedPost.STATE);
-        check.due("empty", Check.told("").post(), WaitedPost.STATE);
-        check.due("at the first letter", Check.told("X01").post(), WaitedPost.STATE);
-        check.due("at the last letter", Check.told("P04").post(), WaitedPost.STATE);
-        check.due("whole but one", Check.told("P0").post(), WaitedPost.STATE);
-        check.due("one too many", Check.told("P01P").post(), WaitedPost.STATE);
     }
 
     private static void promise6What() {
