@@ -491,7 +491,8 @@ public final class ChanceEdgesTest {
         WaitedPost post = new WaitedPost();
         for (long seed : new long[] {Long.MIN_VALUE, -1, 0, 1, 2, Long.MAX_VALUE}) {
             yearsFrom(post, seed, 1);
-            check.due("the seed behind " + seed, post.seed(0), BigInteger.valueOf(seed).multiply(TIMES).add(MORE).longValue());
+            long due = BigInteger.valueOf(seed).multiply(TIMES).add(MORE).longValue();
+            check.due("the seed behind " + seed, post.seed(0), due);
         }
         for (long x : new long[] {Long.MIN_VALUE, -1, 0, 1, Long.MAX_VALUE}) {
             yearsFrom(post, ahead(x), 1);
@@ -521,7 +522,8 @@ public final class ChanceEdgesTest {
         for (int many = 0; many <= 6; many++) {
             WaitedPost post = Check.posted("P91L10L20L30L40L50L60".substring(0, 3 + 3 * many));
             for (int drawn = 0; drawn <= 8; drawn++) {
-                check.due("drawn " + drawn + " of " + many, yearsFrom(post, drawing(drawn), 1), drawn < many ? drawn + 1 : 0);
+                int due = drawn < many ? drawn + 1 : 0;
+                check.due("drawn " + drawn + " of " + many, yearsFrom(post, drawing(drawn), 1), due);
             }
         }
         WaitedPost post = Check.posted("P91L10L20");

@@ -37,6 +37,10 @@ public final class RefusalsTest {
         promise26UnknownState();
         promise27Outside();
         promise11RefusedActs();
+        promise2TextAlone();
+        promise3TextAlone();
+        promise23SeedAlone();
+        promise23SeedStays();
         noSuchLetter();
         noSuchSlot();
         numbersOfTheFace();
@@ -58,33 +62,26 @@ public final class RefusalsTest {
         return post;
     }
 
-    /** As busy, but there is no room this DAY. */
+    /** As busy, but there is no room this DAY, and both SLOTS keep something else. */
     private static WaitedPost full() {
-        WaitedPost post = busy();
-        post.send(4);
-        return post;
-    }
-
-    /** As busy, but THE ROW of ACTS is empty. */
-    private static WaitedPost goneOn() {
-        WaitedPost post = busy();
-        post.again(1);
-        return post;
-    }
-
-    /** Two that are not SENT, each of which EXPLAINS the other one. */
-    private static WaitedPost ring() {
-        WaitedPost post = Check.posted("P91L51L32L70E01E10");
-        post.day();
-        post.send(2);
+        WaitedPost post = Check.posted(TEXT);
         post.keep(0);
+        post.send(0);
+        post.card(1);
+        post.day();
+        post.tear(2);
+        post.keep(1);
+        post.send(3);
+        post.send(4);
+        post.seed(-9);
         return post;
     }
 
-    /** A POST behind which THE TEXT went on to a FAULT. */
-    private static WaitedPost faulty() {
-        WaitedPost post = busy();
-        post.write('L');
+    /** As full, but THE ROW of ACTS is empty. */
+    private static WaitedPost goneOn() {
+        WaitedPost post = full();
+        post.keep(1);
+        post.again(1);
         return post;
     }
 
@@ -99,17 +96,66 @@ public final class RefusalsTest {
         return post;
     }
 
-    /** A TEXT of 48 letters that is THE POST, some ACTS behind it. */
+    /** LETTERS 0 and 1 EXPLAIN each other, the others were SENT: there is no ORDER. */
+    private static WaitedPost ring() {
+        return bySending("P32L52L31L70L92E01E10E20E31", 2);
+    }
+
+    /** As ring, but nothing is left. */
+    private static WaitedPost allSent() {
+        return bySending("P32L52L31L70L92E01E10E20E31", 0);
+    }
+
+    /** Five LETTERS that are not SENT, and room for one a DAY. */
+    private static WaitedPost crowded() {
+        return bySending("P31L52L31L70L83L91L10E01E10E20E31E05", 5);
+    }
+
+    /** A TEXT of 48 letters that is THE POST, the last LETTER SENT. */
     private static WaitedPost written() {
-        WaitedPost post = Check.posted("P03L50L51L52L53L90L91E01E02E03E04E05E10E12E13E14");
-        post.send(5);
-        post.day();
+        return bySending("P02L50L51L52L53L90L91E01E02E03E04E05E10E12E13E14", 5);
+    }
+
+    /** Sends the LETTERS from the last one down to the one told; ahead of that one is TORN, and a clock stands. */
+    private static WaitedPost bySending(String text, int least) {
+        WaitedPost post = Check.posted(text);
         post.keep(0);
+        post.card(1);
+        post.tear(0);
+        post.day();
+        post.tear(1);
+        post.keep(1);
+        int sent = 0;
+        for (int letter = post.count(1) - 1; letter >= least; letter--) {
+            if (sent > 0 && sent % post.count(3) == 0) {
+                post.day();
+            }
+            post.send(letter);
+            sent++;
+        }
+        post.seed(11);
         return post;
     }
 
+    /** A POST behind which THE TEXT went on to a FAULT. */
+    private static WaitedPost faulty() {
+        WaitedPost post = full();
+        post.write('L');
+        return post;
+    }
+
+    /** Beside those one off the five LETTERS such as bits of an int wrap round to LETTERS 0 and 3, which were SENT. */
+    private static final int[] NO_LETTERS = {-1, 5, 6, 32, 35, -32, -29, Integer.MIN_VALUE, Integer.MAX_VALUE};
+
+    /** What is refused where there is room is refused likewise without room. */
     private static void refused(String call, ToLongFunction<WaitedPost> asked, long want) {
+        boolean refusal = want < 0 && want != NONE;
         check.changesNothing(call, RefusalsTest::busy, asked, want);
+        check.changesNothing(call + " without room", RefusalsTest::full, asked, refusal ? want : asked.applyAsLong(full()));
+    }
+
+    private static void behind48(String call, ToLongFunction<WaitedPost> asked, long want) {
+        check.changesNothing(call + " behind 48", RefusalsTest::written, asked, want);
     }
 
     private static void promise2OutsideFull() {
@@ -117,10 +163,10 @@ public final class RefusalsTest {
         int[] outside = {Integer.MIN_VALUE, -1, 256, Integer.MAX_VALUE};
         for (int letter : outside) {
             refused("write(" + letter + ")", post -> post.write(letter), OUTSIDE);
-            check.changesNothing("write(" + letter + ") behind 48", RefusalsTest::written, post -> post.write(letter), OUTSIDE);
+            behind48("write(" + letter + ")", post -> post.write(letter), OUTSIDE);
         }
         for (int letter : new int[] {0, 'E', 255}) {
-            check.changesNothing("write(" + letter + ") behind 48", RefusalsTest::written, post -> post.write(letter), FULL);
+            behind48("write(" + letter + ")", post -> post.write(letter), FULL);
             check.due("write(" + letter + ")", busy().write(letter), TEXT.length() + 1);
         }
     }
@@ -145,8 +191,9 @@ public final class RefusalsTest {
     private static void promise6UnknownOutside() {
         check.sentence(6, "UNKNOWN; OUTSIDE.");
         for (int what : new int[] {-1, 0, 6, 7}) {
-            refused("letter(-1, " + what + ")", post -> post.letter(-1, what), UNKNOWN);
-            refused("letter(5, " + what + ")", post -> post.letter(5, what), UNKNOWN);
+            for (int letter : NO_LETTERS) {
+                refused("letter(" + letter + ", " + what + ")", post -> post.letter(letter, what), UNKNOWN);
+            }
         }
         for (int what : new int[] {Integer.MIN_VALUE, -1, 7, Integer.MAX_VALUE}) {
             refused("letter(0, " + what + ")", post -> post.letter(0, what), OUTSIDE);
@@ -159,13 +206,11 @@ public final class RefusalsTest {
 
     private static void promise7UnknownStateFull() {
         check.sentence(7, "UNKNOWN; STATE: it was SENT; FULL: there is no room this DAY.");
-        for (int letter : new int[] {-1, 5}) {
+        for (int letter : NO_LETTERS) {
             refused("send(" + letter + ")", post -> post.send(letter), UNKNOWN);
-            check.changesNothing("send(" + letter + ") without room", RefusalsTest::full, post -> post.send(letter), UNKNOWN);
         }
         for (int letter : new int[] {0, 3}) {
             refused("send(" + letter + ")", post -> post.send(letter), STATE);
-            check.changesNothing("send(" + letter + ") without room", RefusalsTest::full, post -> post.send(letter), STATE);
         }
         for (int letter : new int[] {1, 2}) {
             check.changesNothing("send(" + letter + ") without room", RefusalsTest::full, post -> post.send(letter), FULL);
@@ -176,8 +221,9 @@ public final class RefusalsTest {
 
     private static void promise9UnknownState() {
         check.sentence(9, "UNKNOWN; STATE: it was SENT, or is TORN.");
-        refused("tear(-1)", post -> post.tear(-1), UNKNOWN);
-        refused("tear(5)", post -> post.tear(5), UNKNOWN);
+        for (int letter : NO_LETTERS) {
+            refused("tear(" + letter + ")", post -> post.tear(letter), UNKNOWN);
+        }
         refused("tear(0)", post -> post.tear(0), STATE);
         refused("tear(3)", post -> post.tear(3), STATE);
         refused("tear(2)", post -> post.tear(2), STATE);
@@ -193,8 +239,9 @@ public final class RefusalsTest {
 
     private static void promise10UnknownState() {
         check.sentence(10, "UNKNOWN; STATE: it was SENT, or its clock stands.");
-        refused("card(-1)", post -> post.card(-1), UNKNOWN);
-        refused("card(5)", post -> post.card(5), UNKNOWN);
+        for (int letter : NO_LETTERS) {
+            refused("card(" + letter + ")", post -> post.card(letter), UNKNOWN);
+        }
         refused("card(0)", post -> post.card(0), STATE);
         refused("card(3)", post -> post.card(3), STATE);
         refused("card(1)", post -> post.card(1), STATE);
@@ -226,8 +273,9 @@ public final class RefusalsTest {
     private static void promise12UnknownOutsideState() {
         check.sentence(12, "UNKNOWN; OUTSIDE: n; STATE: it was SENT.");
         for (int n : new int[] {-1, 0, 9, 10}) {
-            refused("price(-1, " + n + ")", post -> post.price(-1, n), UNKNOWN);
-            refused("price(5, " + n + ")", post -> post.price(5, n), UNKNOWN);
+            for (int letter : NO_LETTERS) {
+                refused("price(" + letter + ", " + n + ")", post -> post.price(letter, n), UNKNOWN);
+            }
         }
         for (int n : new int[] {Integer.MIN_VALUE, -1, 10, Integer.MAX_VALUE}) {
             refused("price(0, " + n + "), SENT", post -> post.price(0, n), OUTSIDE);
@@ -241,8 +289,9 @@ public final class RefusalsTest {
 
     private static void promise13UnknownState() {
         check.sentence(13, "UNKNOWN; STATE: it was SENT.");
-        refused("cheapest(-1)", post -> post.cheapest(-1), UNKNOWN);
-        refused("cheapest(5)", post -> post.cheapest(5), UNKNOWN);
+        for (int letter : NO_LETTERS) {
+            refused("cheapest(" + letter + ")", post -> post.cheapest(letter), UNKNOWN);
+        }
         refused("cheapest(0)", post -> post.cheapest(0), STATE);
         refused("cheapest(3)", post -> post.cheapest(3), STATE);
         // 6 today, as in four days; 5 today, (12 - 3) / 2 in four days
@@ -263,21 +312,18 @@ public final class RefusalsTest {
         // the thanks today, where there is room for one, the two others tomorrow
         refused("plan(22, false)", post -> post.plan(22, false), 5 + 6);
         refused("plan(22, true)", post -> post.plan(22, true), 110);
-        Supplier<WaitedPost> crowded = () -> {
-            WaitedPost post = Check.posted("P91L50L60L70L80L90L10");
-            post.send(5);
-            return post;
-        };
-        check.changesNothing("plan(64), five without room", crowded, post -> post.plan(64 + 31, false), OUTSIDE);
-        check.changesNothing("plan(63), five without room", crowded, post -> post.plan(63, false), STATE);
-        check.changesNothing("plan(31), five without room", crowded, post -> post.plan(31, false), NONE);
-        check.changesNothing("plan(15), four without room", crowded, post -> post.plan(15, true), NONE);
-        check.changesNothing("plan(7)", crowded, post -> post.plan(7, true), 123);
+        check.changesNothing("plan(64), five without room", RefusalsTest::crowded, post -> post.plan(64 + 31, false), OUTSIDE);
+        check.changesNothing("plan(63), five without room", RefusalsTest::crowded, post -> post.plan(63, false), STATE);
+        check.changesNothing("plan(31), five without room", RefusalsTest::crowded, post -> post.plan(31, false), NONE);
+        check.changesNothing("plan(15), four without room", RefusalsTest::crowded, post -> post.plan(15, true), NONE);
+        // love on the pardon, thanks ahead of it, the widow's on the last DAY
+        check.changesNothing("plan(28)", RefusalsTest::crowded, post -> post.plan(28, true), 132);
     }
 
     private static void promise15None() {
         check.sentence(15, "ORDER, as figures; NONE.");
         check.changesNothing("order() of a ring", RefusalsTest::ring, WaitedPost::order, NONE);
+        check.changesNothing("order() of nothing left", RefusalsTest::allSent, WaitedPost::order, NONE);
         check.changesNothing("order() of no LETTERS", WaitedPost::new, WaitedPost::order, NONE);
         refused("order()", WaitedPost::order, 235);
     }
@@ -312,8 +358,9 @@ public final class RefusalsTest {
     private static void promise18UnknownOutsideState() {
         check.sentence(18, "UNKNOWN; OUTSIDE: p; STATE: it was SENT.");
         for (int p : new int[] {-1, 0, 60, 61}) {
-            refused("waits(-1, " + p + ")", post -> post.waits(-1, p), UNKNOWN);
-            refused("waits(5, " + p + ")", post -> post.waits(5, p), UNKNOWN);
+            for (int letter : NO_LETTERS) {
+                refused("waits(" + letter + ", " + p + ")", post -> post.waits(letter, p), UNKNOWN);
+            }
         }
         for (int p : new int[] {Integer.MIN_VALUE, -1, 61, Integer.MAX_VALUE}) {
             refused("waits(0, " + p + "), SENT", post -> post.waits(0, p), OUTSIDE);
@@ -327,12 +374,16 @@ public final class RefusalsTest {
 
     private static void promise19UnknownOutsideState() {
         check.sentence(19, "UNKNOWN; OUTSIDE: p, what; STATE: it was SENT.");
+        for (int letter : NO_LETTERS) {
+            refused("who(" + letter + ", 60, 2)", post -> post.who(letter, 60, 2), UNKNOWN);
+        }
         int[][] outside = {{-1, 0}, {61, 0}, {0, -1}, {0, 3}, {60, -1}, {60, 3}, {-1, -1}, {61, 3},
             {Integer.MIN_VALUE, 0}, {Integer.MAX_VALUE, 0}, {0, Integer.MIN_VALUE}, {0, Integer.MAX_VALUE}};
         for (int[] told : outside) {
             String rest = ", " + told[0] + ", " + told[1] + ")";
-            refused("who(-1" + rest, post -> post.who(-1, told[0], told[1]), UNKNOWN);
-            refused("who(5" + rest, post -> post.who(5, told[0], told[1]), UNKNOWN);
+            for (int letter : NO_LETTERS) {
+                refused("who(" + letter + rest, post -> post.who(letter, told[0], told[1]), UNKNOWN);
+            }
             refused("who(0" + rest + ", SENT", post -> post.who(0, told[0], told[1]), OUTSIDE);
             refused("who(1" + rest, post -> post.who(1, told[0], told[1]), OUTSIDE);
         }
@@ -347,8 +398,9 @@ public final class RefusalsTest {
     private static void promise20Unknown() {
         check.sentence(20, "UNKNOWN.");
         for (boolean upper : new boolean[] {false, true}) {
-            refused("share(-1, " + upper + ")", post -> post.share(-1, upper), UNKNOWN);
-            refused("share(5, " + upper + ")", post -> post.share(5, upper), UNKNOWN);
+            for (int letter : NO_LETTERS) {
+                refused("share(" + letter + ", " + upper + ")", post -> post.share(letter, upper), UNKNOWN);
+            }
             refused("share(0, " + upper + "), SENT", post -> post.share(0, upper), upper ? 0 : 1);
             refused("share(1, " + upper + ")", post -> post.share(1, upper), upper ? 6 : 1);
         }
@@ -356,7 +408,7 @@ public final class RefusalsTest {
 
     private static void promise21UnknownOutsideState() {
         check.sentence(21, "UNKNOWN: both; OUTSIDE: both are one, what; STATE: one was SENT.");
-        int[][] unknown = {{-1, 0}, {0, -1}, {5, 0}, {0, 5}, {1, 5}, {5, 1}, {-1, -1}, {5, 5}, {-1, 5}};
+        int[][] unknown = {{-1, 0}, {0, -1}, {5, 0}, {0, 5}, {1, 5}, {5, 1}, {-1, -1}, {5, 5}, {-1, 5}, {32, 1}, {1, 35}};
         for (int[] pair : unknown) {
             for (int what : new int[] {-1, 0, 1, 2}) {
                 String call = "rests(" + pair[0] + ", " + pair[1] + ", " + what + ")";
@@ -381,13 +433,17 @@ public final class RefusalsTest {
 
     private static void promise22UnknownOutsideState() {
         check.sentence(22, "UNKNOWN; OUTSIDE: p, x; STATE: it was SENT.");
+        for (int letter : NO_LETTERS) {
+            refused("lost(" + letter + ", 60, 10, true)", post -> post.lost(letter, 60, 10, true), UNKNOWN);
+        }
         int[][] outside = {{-1, 0}, {61, 0}, {0, -1}, {0, 11}, {60, -1}, {60, 11}, {-1, 11}, {61, -1},
             {Integer.MIN_VALUE, 0}, {Integer.MAX_VALUE, 0}, {0, Integer.MIN_VALUE}, {0, Integer.MAX_VALUE}};
         for (int[] told : outside) {
             for (boolean upper : new boolean[] {false, true}) {
                 String rest = ", " + told[0] + ", " + told[1] + ", " + upper + ")";
-                refused("lost(-1" + rest, post -> post.lost(-1, told[0], told[1], upper), UNKNOWN);
-                refused("lost(5" + rest, post -> post.lost(5, told[0], told[1], upper), UNKNOWN);
+                for (int letter : NO_LETTERS) {
+                    refused("lost(" + letter + rest, post -> post.lost(letter, told[0], told[1], upper), UNKNOWN);
+                }
                 refused("lost(0" + rest + ", SENT", post -> post.lost(0, told[0], told[1], upper), OUTSIDE);
                 refused("lost(1" + rest, post -> post.lost(1, told[0], told[1], upper), OUTSIDE);
             }
@@ -422,7 +478,7 @@ public final class RefusalsTest {
             refused("again(" + slot + ")", post -> post.again(slot), UNKNOWN);
             check.due("again(" + slot + ") with nothing kept", new WaitedPost().again(slot), UNKNOWN);
         }
-        refused("again(0), none were kept", post -> post.again(0), STATE);
+        check.changesNothing("again(0), none were kept", RefusalsTest::busy, post -> post.again(0), STATE);
         check.due("again(1)", busy().again(1), 1);
         Supplier<WaitedPost> anew = () -> {
             WaitedPost post = busy();
@@ -465,6 +521,64 @@ public final class RefusalsTest {
         refusedAct("again(0)", post -> post.again(0), STATE);
         check.due("an ACT that is not refused forgets the first one", !Later.tells(RefusalsTest::longRow).equals(
             Later.tells(Later.behind(RefusalsTest::longRow, post -> post.day() + post.undo()))));
+    }
+
+    private static void promise2TextAlone() {
+        check.sentence(2, "A letter (0 to 255) comes behind THE TEXT");
+        for (int letter : new int[] {0, 'E', 'L', 255}) {
+            check.changesNothing("write(" + letter + "), THE TEXT told anew", RefusalsTest::full, post -> {
+                int length = post.write(letter);
+                Check.tell(post, TEXT);
+                return length;
+            }, TEXT.length() + 1);
+        }
+    }
+
+    private static void promise3TextAlone() {
+        check.sentence(3, "THE TEXT is empty");
+        for (Supplier<WaitedPost> made : List.<Supplier<WaitedPost>>of(RefusalsTest::busy, RefusalsTest::full)) {
+            check.changesNothing("wipe(), THE TEXT told anew", made, post -> {
+                int length = post.wipe();
+                Check.tell(post, TEXT);
+                return length;
+            }, TEXT.length());
+        }
+    }
+
+    private static void promise23SeedAlone() {
+        check.sentence(23, "THE SEED is v");
+        for (long v : new long[] {0, 1, -1, Long.MIN_VALUE, Long.MAX_VALUE}) {
+            check.changesNothing("seed(" + v + "), put back", RefusalsTest::full, post -> {
+                long was = post.seed(v);
+                post.seed(was);
+                return was;
+            }, -9);
+        }
+    }
+
+    private static void promise23SeedStays() {
+        check.sentence(23, "what it was");
+        WaitedPost post = busy();
+        post.write('L');
+        check.due("behind write()", post.seed(1), 7);
+        Check.tell(post, TEXT);
+        check.due("behind wipe()", post.seed(2), 1);
+        post.send(4);
+        check.due("behind send()", post.seed(3), 2);
+        post.day();
+        check.due("behind day()", post.seed(4), 3);
+        post.tear(1);
+        check.due("behind tear()", post.seed(5), 4);
+        post.card(2);
+        check.due("behind card()", post.seed(6), 5);
+        post.undo();
+        check.due("behind undo()", post.seed(7), 6);
+        post.keep(0);
+        check.due("behind keep()", post.seed(8), 7);
+        post.again(0);
+        check.due("behind again()", post.seed(9), 8);
+        post.post();
+        check.due("behind post()", post.seed(10), 9);
     }
 
     // ---- what the terms say of all calls
@@ -541,7 +655,8 @@ public final class RefusalsTest {
     private static void asks(int promise, String call, ToLongFunction<WaitedPost> asked) {
         check.sentence(promise, "In what follows nothing is changed.");
         for (Supplier<WaitedPost> made : List.<Supplier<WaitedPost>>of(RefusalsTest::busy, RefusalsTest::full,
-            RefusalsTest::goneOn, RefusalsTest::longRow, RefusalsTest::ring, RefusalsTest::written, WaitedPost::new)) {
+            RefusalsTest::goneOn, RefusalsTest::longRow, RefusalsTest::ring, RefusalsTest::allSent, RefusalsTest::crowded,
+            RefusalsTest::written, WaitedPost::new)) {
             check.changesNothing(call, made, asked, asked.applyAsLong(made.get()));
         }
     }

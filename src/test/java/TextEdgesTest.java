@@ -215,6 +215,9 @@ public final class TextEdgesTest {
         fault("P01L00L00L00E01E02E0", 19);
         fault("P01L00L00L00E01E02E1", 20);
         fault("P01L00L00E01E", 13);
+        fault("P01L00L00E10E", 13);
+        fault("P01L00L00E10E1", 13);
+        fault("P01L00L00E10E01", NONE);
         fault("P01L00L00E01E10", NONE);
         fault("P01L00L00E01E10E", 15);
         fault("P01L00L00E01E10L00E", 19);
