@@ -22,6 +22,7 @@ public final class ActEdgesTest {
         promise10ThreeDays();
         promise10ItsPrice();
         promise11EachIsInTheRow();
+        promise11NothingElseIs();
         promise11HowManyAreLeft();
         promise11FourteenAtMost();
         promise11LastOneOfMore();
@@ -313,6 +314,26 @@ public final class ActEdgesTest {
             check.due("undo()", post.undo(), left);
             check.due("as it was behind " + left, Check.view(post).equals(views[left]));
         }
+    }
+
+    private static void promise11NothingElseIs() {
+        check.sentence(11, "ACTS (SENT, DAYS, TORN, CARDS)");
+        WaitedPost post = Check.posted("P91L50L60");
+        post.day();
+        post.seed(3);
+        post.years(30);
+        post.keep(0);
+        post.write('L');
+        post.wipe();
+        post.fault();
+        post.plan(3, false);
+        post.cost(2, 10);
+        check.due("count(9)", post.count(9), 1);
+        long seed = post.seed(4);
+        check.due("undo()", post.undo(), 0);
+        check.due("THE SEED is not undone", seed != 3 && post.seed(0) == 4);
+        check.due("THE TEXT is not undone", post.count(0), 0);
+        check.due("what was kept is not undone", post.again(0), 1);
     }
 
     private static void promise11HowManyAreLeft() {

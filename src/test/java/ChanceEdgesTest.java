@@ -24,6 +24,7 @@ public final class ChanceEdgesTest {
         promise20WasSent();
         promise20LeastTerms();
         promise21FourDays();
+        promise21NothingElse();
         promise21Room();
         promise21ThreeLess();
         promise21ZeroAtLeast();
@@ -263,6 +264,33 @@ public final class ChanceEdgesTest {
         }
         // the fifth day is none of them: 9 today, or 10 tomorrow if the widow's is sent today
         rests(Check.posted("P41L90L03"), 0, 1, 4, 1);
+    }
+
+    private static void promise21NothingElse() {
+        check.sentence(21, "and pays its PRICE then as it is if nothing else is done");
+        // love of 10, then 12: 01, 02, 03, 10; it pays as much as today on as many DAYS more as its clock stands
+        WaitedPost post = Check.posted("P91L51L03");
+        rests(post, 0, 1, 4, 1);
+        post.card(0);
+        rests(post, 0, 1, 12, 1);
+        post.day();
+        rests(post, 0, 1, 9, 1);
+        post.day();
+        rests(post, 0, 1, 6, 1);
+        post.day();
+        rests(post, 0, 1, 4, 1);
+        // a third one that was SENT EXPLAINS it: 0 today, 0 tomorrow, 1 in two days; a day later 0, then 1
+        WaitedPost explained = Check.posted("P91L20L03L00E20");
+        rests(explained, 0, 1, 4, 1);
+        explained.send(2);
+        rests(explained, 0, 1, 6, 1);
+        explained.day();
+        rests(explained, 0, 1, 4, 1);
+        // thanks that were torn wait as dearly as love: both today is a pair, too
+        WaitedPost torn = Check.posted("P91L50L51");
+        rests(torn, 0, 1, 2, 1);
+        torn.tear(0);
+        rests(torn, 0, 1, 3, 0);
     }
 
     private static void promise21Room() {

@@ -207,6 +207,11 @@ public final class PriceEdgesTest {
         // the one that waits is dearer by its own day, but by the 3 less both together are not
         plan(Check.posted("P91L90L52E01"), 3, 9 + 15, 1);
         plan(Check.posted("P91L51L50E10"), 3, 5 + 9, 10);
+        // the one whose clock stands can wait
+        WaitedPost post = Check.posted("P91L52L51");
+        plan(post, 3, 15 + 12, 1);
+        post.card(0);
+        plan(post, 3, 15 + 10, 10);
     }
 
     private static void promise14OfLikeOnes() {

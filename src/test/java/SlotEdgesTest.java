@@ -11,6 +11,7 @@ public final class SlotEdgesTest {
         promise26NoneWereKept();
         promise26RowIsEmpty();
         promise26AsTheyWereKept();
+        promise26SeedAndText();
         promise27Counts();
         promise27PricesOfAll();
         calls512();
@@ -125,6 +126,24 @@ public final class SlotEdgesTest {
         post.keep(1);
         check.due("kept anew", post.again(1), 1);
         check.due("the other slot as it was", post.again(0), 0);
+    }
+
+    private static void promise26SeedAndText() {
+        check.sentence(26, "They are as they were kept");
+        WaitedPost post = Check.posted("P91L50");
+        post.seed(5);
+        post.keep(0);
+        post.seed(6);
+        post.write('L');
+        post.keep(1);
+        check.due("again(0)", post.again(0), 0);
+        check.due("THE SEED is not kept", post.seed(6), 6);
+        check.due("THE TEXT is not kept", post.count(0), 7);
+        check.due("what another slot keeps stays", post.again(1), 0);
+        post.wipe();
+        check.due("again(0) with no TEXT", post.again(0), 0);
+        check.due("count(0)", post.count(0), 0);
+        check.due("LETTERS", post.count(1), 1);
     }
 
     private static void promise27Counts() {
