@@ -11,6 +11,7 @@ public final class RefusalsTest {
     private static final int FULL = WaitedPost.FULL;
     private static final int NONE = WaitedPost.NONE;
     private static final String TEXT = "P52L51L32L43L91L70E01E12E34";
+    private static final String FULL_TEXT = "P02L50L51L52L53L90L91E01E02E03E04E05E10E12E13E14";
 
     public static void main(String[] args) {
         laterTellsWhatIsDone();
@@ -111,9 +112,9 @@ public final class RefusalsTest {
         return bySending("P31L52L31L70L83L91L10E01E10E20E31E05", 5);
     }
 
-    /** A TEXT of 48 letters that is THE POST, the last LETTER SENT. */
+    /** THE TEXT is full, the last LETTER SENT. */
     private static WaitedPost written() {
-        return bySending("P02L50L51L52L53L90L91E01E02E03E04E05E10E12E13E14", 5);
+        return bySending(FULL_TEXT, 5);
     }
 
     /** Sends the LETTERS from the last one down to the one told; ahead of that one is TORN, and a clock stands. */
@@ -156,6 +157,7 @@ public final class RefusalsTest {
 
     private static void behind48(String call, ToLongFunction<WaitedPost> asked, long want) {
         check.changesNothing(call + " behind 48", RefusalsTest::written, asked, want);
+        check.changesNothing(call + " behind 48, nothing done", () -> Check.posted(FULL_TEXT), asked, want);
     }
 
     private static void promise2OutsideFull() {
@@ -312,9 +314,11 @@ public final class RefusalsTest {
         // the thanks today, where there is room for one, the two others tomorrow
         refused("plan(22, false)", post -> post.plan(22, false), 5 + 6);
         refused("plan(22, true)", post -> post.plan(22, true), 110);
-        check.changesNothing("plan(64), five without room", RefusalsTest::crowded, post -> post.plan(64 + 31, false), OUTSIDE);
-        check.changesNothing("plan(63), five without room", RefusalsTest::crowded, post -> post.plan(63, false), STATE);
+        check.changesNothing("plan(95), no room", RefusalsTest::crowded, post -> post.plan(64 + 31, false), OUTSIDE);
+        check.changesNothing("plan(63), no room", RefusalsTest::crowded, post -> post.plan(63, false), STATE);
         check.changesNothing("plan(31), five without room", RefusalsTest::crowded, post -> post.plan(31, false), NONE);
+        Supplier<WaitedPost> five = () -> Check.posted("P91L50L60L70L80L90");
+        check.changesNothing("plan(31), nothing done", five, post -> post.plan(31, true), NONE);
         check.changesNothing("plan(15), four without room", RefusalsTest::crowded, post -> post.plan(15, true), NONE);
         // love on the pardon, thanks ahead of it, the widow's on the last DAY
         check.changesNothing("plan(28)", RefusalsTest::crowded, post -> post.plan(28, true), 132);
