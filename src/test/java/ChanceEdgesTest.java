@@ -38,6 +38,7 @@ public final class ChanceEdgesTest {
         promise22PriceOrLess();
         promise22SentAndExplains();
         promise23Seed();
+        promise24AtFirst();
         promise24Times();
         promise24Wrapping();
         promise24Upper31Bits();
@@ -494,6 +495,18 @@ public final class ChanceEdgesTest {
     private static int yearsFrom(WaitedPost post, long seed, int m) {
         post.seed(seed);
         return post.years(m);
+    }
+
+    private static void promise24AtFirst() {
+        check.sentence(24, "x (THE SEED, a long; 0 at first)");
+        check.due("the seed at first", new WaitedPost().seed(1), 0);
+        WaitedPost post = new WaitedPost();
+        check.due("years(1)", post.years(1), 0);
+        check.due("the seed behind the first year", post.seed(0), MORE.longValue());
+        check.due("years(1) from 1", yearsFrom(post, 1, 1), 0);
+        check.due("the seed behind it", post.seed(0), TIMES.add(MORE).longValue());
+        check.due("years(1) from -1", yearsFrom(post, -1, 1), 0);
+        check.due("the seed behind it", post.seed(0), MORE.subtract(TIMES).longValue());
     }
 
     private static void promise24Times() {

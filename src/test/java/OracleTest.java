@@ -5,12 +5,15 @@ public final class OracleTest {
     private static final Check check = new Check();
     private static final int RUNS = 400;
     private static final int CALLS = 450;
+    private static final int WILD_RUNS = 600;
+    // some 150 calls each: more would go beyond the 512 of one object
+    private static final int WILD_ROUNDS = 3;
 
     public static void main(String[] args) {
         for (int run = 0; run < RUNS; run++) {
             oneRun(run);
         }
-        for (int run = 0; run < 100; run++) {
+        for (int run = 0; run < WILD_RUNS; run++) {
             wildRun(run);
         }
         check.end();
@@ -157,7 +160,8 @@ public final class OracleTest {
             }
             case 26: case 27: {
                 int x = near(random, 10);
-                int now = random.nextInt(2) == 0 && post.letter(letter, 6) >= 0 ? post.letter(letter, 6) + random.nextInt(4) : p;
+                boolean near = random.nextInt(2) == 0 && post.letter(letter, 6) >= 0;
+                int now = near ? post.letter(letter, 6) + random.nextInt(4) : p;
                 check.due("lost(" + letter + ", " + now + ", " + x + ", " + upper + ")", post.lost(letter, now, x, upper),
                     naive.lost(letter, now, x, upper));
                 break;
@@ -198,7 +202,7 @@ public final class OracleTest {
         Random random = new Random(-1 - run);
         check.promise("wild run " + run);
         WaitedPost post = Check.posted(randomText(random));
-        for (int i = 0; i < 20; i++) {
+        for (int i = 0; i < WILD_ROUNDS; i++) {
             for (int act = 0; act < 3; act++) {
                 post.send(random.nextInt(6));
                 post.tear(random.nextInt(12));
