@@ -1,23 +1,16 @@
-import com.sun.source.tree.AssertTree;
 import com.sun.source.tree.BlockTree;
 import com.sun.source.tree.ClassTree;
 import com.sun.source.tree.CompilationUnitTree;
 import com.sun.source.tree.ForLoopTree;
 import com.sun.source.tree.IdentifierTree;
 import com.sun.source.tree.ImportTree;
-import com.sun.source.tree.LambdaExpressionTree;
 import com.sun.source.tree.LineMap;
-import com.sun.source.tree.LiteralTree;
-import com.sun.source.tree.MemberReferenceTree;
 import com.sun.source.tree.MemberSelectTree;
 import com.sun.source.tree.MethodInvocationTree;
 import com.sun.source.tree.MethodTree;
 import com.sun.source.tree.NewArrayTree;
 import com.sun.source.tree.NewClassTree;
-import com.sun.source.tree.SynchronizedTree;
-import com.sun.source.tree.ThrowTree;
 import com.sun.source.tree.Tree;
-import com.sun.source.tree.TryTree;
 import com.sun.source.tree.TypeCastTree;
 import com.sun.source.tree.VariableTree;
 import com.sun.source.tree.WhileLoopTree;
@@ -42,6 +35,10 @@ public final class LanguageTest extends TreeScanner<Void, Void> {
     private static final Set<String> LIBRARY = Set.of("Arrays.fill", "Integer.bitCount", "Math.abs", "Math.max", "Math.min");
     private static final Set<String> CONSTANTS = Set.of("int", "long", "boolean", "char", "String", "int[]", "long[]",
         "char[]", "byte[]");
+
+    // no text is made, so that none is joined by +
+    private static final Set<Tree.Kind> NEVER = Set.of(Tree.Kind.THROW, Tree.Kind.TRY, Tree.Kind.SYNCHRONIZED,
+        Tree.Kind.ASSERT, Tree.Kind.LAMBDA_EXPRESSION, Tree.Kind.MEMBER_REFERENCE, Tree.Kind.STRING_LITERAL);
 
     private final Check check = new Check();
     private final CompilationUnitTree unit;
@@ -98,6 +95,14 @@ public final class LanguageTest extends TreeScanner<Void, Void> {
 
     private void rule(String words, Tree tree, boolean holds) {
         check.due("line " + lineOf(tree) + ", rule " + words, holds);
+    }
+
+    @Override
+    public Void scan(Tree tree, Void none) {
+        if (tree != null && NEVER.contains(tree.getKind())) {
+            rule("2, 6 or 10: " + tree.getKind(), tree, false);
+        }
+        return super.scan(tree, none);
     }
 
     @Override
@@ -227,50 +232,9 @@ public final class LanguageTest extends TreeScanner<Void, Void> {
         return name.equals("WaitedPost");
     }
 
-    private Void never(String words, Tree tree) {
-        rule(words, tree, false);
-        return null;
-    }
-
-    @Override
-    public Void visitLiteral(LiteralTree tree, Void none) {
-        rule("10: no text, so none is joined by +", tree, !(tree.getValue() instanceof String));
-        return null;
-    }
-
     @Override
     public Void visitTypeCast(TypeCastTree tree, Void none) {
         rule("6: a cast to int alone", tree, tree.getType().toString().equals("int"));
         return super.visitTypeCast(tree, none);
-    }
-
-    @Override
-    public Void visitThrow(ThrowTree tree, Void none) {
-        return never("6: throw", tree);
-    }
-
-    @Override
-    public Void visitTry(TryTree tree, Void none) {
-        return never("6: try", tree);
-    }
-
-    @Override
-    public Void visitSynchronized(SynchronizedTree tree, Void none) {
-        return never("6: synchronized", tree);
-    }
-
-    @Override
-    public Void visitAssert(AssertTree tree, Void none) {
-        return never("6: assert", tree);
-    }
-
-    @Override
-    public Void visitLambdaExpression(LambdaExpressionTree tree, Void none) {
-        return never("2: a lambda", tree);
-    }
-
-    @Override
-    public Void visitMemberReference(MemberReferenceTree tree, Void none) {
-        return never("2: a method reference", tree);
     }
 }
